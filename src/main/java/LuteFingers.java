@@ -9,7 +9,7 @@ public final class LuteFingers {
     private static final int STRETCH = 0, FINGER = 1, BAR = 2, SHIFT = 3, CROSSING = 4;
     private static final int WEIGHTS = 5, TOP_WEIGHT = 9;
     private static final int TICKS = 16, NOTES = 4, TOP_PITCH = 120, TOP_PRICE = 100;
-    private static final int PLAIN = 0, HELD = 1, OPEN = 3;
+    private static final int PLAIN = 0, HELD = 1, SLUR = 2, OPEN = 3;
     private static final int GRIPS = 32, PLACES = 13;
     private static final int WAYS = 8, TUNINGS = 4, BYTES = 600;
 
@@ -457,7 +457,7 @@ public final class LuteFingers {
         private final int[] fixed = new int[(TICKS + 1) * NOTES];
 
         private static boolean isTied(int kind) {
-            return kind != PLAIN && kind != OPEN;
+            return kind == HELD || kind == SLUR;
         }
 
         private boolean hasTick(int tick) {
