@@ -1,3 +1,4 @@
+import java.lang.reflect.Method;
 import java.util.ArrayList;
 import java.util.Arrays;
 import java.util.Collections;
@@ -19,6 +20,8 @@ public final class AgainstPlainTest {
     private static final String[] NAMES = {"course", "tune", "slack", "bars", "weight", "note", "tick", "clear",
         "fix", "told", "grips", "grip", "why", "way", "next", "at", "rank", "say", "check", "arrange", "left", "rest",
         "tuning", "choose", "feed", "wipe", "tape", "write", "read", "count"};
+
+    private static final Method[] OF_CLASS = methods(LuteFingers.class), OF_PLAIN = methods(Plain.class);
 
     public static void main(String[] args) {
         for (int seed = 1; seed <= 6000 && wrong < 5; seed++) run(seed);
@@ -46,9 +49,9 @@ public final class AgainstPlainTest {
         int calls = 60 + random.nextInt(200);
         for (int i = 0; i < calls; i++) {
             int[] call = caller.choose(i);
-            int due = answer(plain, call);
+            int due = answer(OF_PLAIN, plain, call);
             if (due == TOO_LONG) continue;
-            int got = answer(fingers, call);
+            int got = answer(OF_CLASS, fingers, call);
             log.append(NAMES[call[0]]).append(Arrays.toString(Arrays.copyOfRange(call, 1, call.length)))
                 .append(" -> ").append(got).append('\n');
             asked[call[0]]++;
@@ -61,73 +64,23 @@ public final class AgainstPlainTest {
         }
     }
 
-    private static int answer(LuteFingers x, int[] c) {
-        switch (NAMES[c[0]]) {
-            case "course": return x.course(c[1], c[2]);
-            case "tune": return x.tune(c[1], c[2]);
-            case "slack": return x.slack(c[1], c[2]);
-            case "bars": return x.bars(c[1]);
-            case "weight": return x.weight(c[1], c[2]);
-            case "note": return x.note(c[1], c[2], c[3]);
-            case "tick": return x.tick();
-            case "clear": return x.clear();
-            case "fix": return x.fix(c[1], c[2], c[3]);
-            case "told": return x.told(c[1], c[2], c[3]);
-            case "grips": return x.grips(c[1]);
-            case "grip": return x.grip(c[1], c[2], c[3], c[4]);
-            case "why": return x.why(c[1]);
-            case "way": return x.way();
-            case "next": return x.next();
-            case "at": return x.at(c[1]);
-            case "rank": return x.rank(c[1]);
-            case "say": return x.say(c[1]);
-            case "check": return x.check();
-            case "arrange": return x.arrange();
-            case "left": return x.left(c[1]);
-            case "rest": return x.rest();
-            case "tuning": return x.tuning(c[1], c[2], c[3]);
-            case "choose": return x.choose();
-            case "feed": return x.feed(c[1]);
-            case "wipe": return x.wipe();
-            case "tape": return x.tape(c[1]);
-            case "write": return x.write();
-            case "read": return x.read();
-            default: return x.count(c[1]);
+    /** The methods of a class in the order of NAMES: the model's bear the names of the face. */
+    private static Method[] methods(Class<?> of) {
+        Method[] found = new Method[NAMES.length];
+        for (Method m : of.getDeclaredMethods()) {
+            int i = Arrays.asList(NAMES).indexOf(m.getName());
+            if (i >= 0) found[i] = m;
         }
+        return found;
     }
 
-    private static int answer(Plain x, int[] c) {
-        switch (NAMES[c[0]]) {
-            case "course": return x.course(c[1], c[2]);
-            case "tune": return x.tune(c[1], c[2]);
-            case "slack": return x.slack(c[1], c[2]);
-            case "bars": return x.bars(c[1]);
-            case "weight": return x.weight(c[1], c[2]);
-            case "note": return x.note(c[1], c[2], c[3]);
-            case "tick": return x.tick();
-            case "clear": return x.clear();
-            case "fix": return x.fix(c[1], c[2], c[3]);
-            case "told": return x.told(c[1], c[2], c[3]);
-            case "grips": return x.grips(c[1]);
-            case "grip": return x.grip(c[1], c[2], c[3], c[4]);
-            case "why": return x.why(c[1]);
-            case "way": return x.way();
-            case "next": return x.next();
-            case "at": return x.at(c[1]);
-            case "rank": return x.rank(c[1]);
-            case "say": return x.say(c[1]);
-            case "check": return x.check();
-            case "arrange": return x.arrange();
-            case "left": return x.left(c[1]);
-            case "rest": return x.rest();
-            case "tuning": return x.tuning(c[1], c[2], c[3]);
-            case "choose": return x.choose();
-            case "feed": return x.feed(c[1]);
-            case "wipe": return x.wipe();
-            case "tape": return x.tape(c[1]);
-            case "write": return x.write();
-            case "read": return x.read();
-            default: return x.count(c[1]);
+    private static int answer(Method[] methods, Object on, int[] call) {
+        Object[] numbers = new Object[call.length - 1];
+        for (int i = 0; i < numbers.length; i++) numbers[i] = call[i + 1];
+        try {
+            return (Integer) methods[call[0]].invoke(on, numbers);
+        } catch (ReflectiveOperationException e) {
+            throw new IllegalStateException(NAMES[call[0]] + Arrays.toString(numbers), e);
         }
     }
 

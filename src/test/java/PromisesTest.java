@@ -387,6 +387,13 @@ public final class PromisesTest {
             due(13, "lower finger on the lower fret", y.grip(0, i, 0, 2) < y.grip(0, i, 1, 2) ? 1 : 0, 1);
             due(13, "stretch 2 of weight 3, two fingers", y.grip(0, i, -1, 1), 8);
         }
+        LuteFingers u = lute(12, 40, 45);
+        u.slack(1, 2);
+        u.slack(2, 2);
+        u.fix(plain(u, 44, 48), 0, 0);
+        for (int i = 0; i < u.grips(0); i++) {
+            due(13, "the higher fret has the higher finger", u.grip(0, i, 0, 2) > u.grip(0, i, 1, 2) ? 1 : 0, 1);
+        }
         // place 1: 1 3, 1 4, 2 3, 2 4; place 2: 1 2, 1 3
         due(12, "how many", many, 6);
         LuteFingers z = lute(12, 40, 45, 50);
@@ -536,6 +543,9 @@ public final class PromisesTest {
         w.tick();
         due(12, "grips by themselves", w.grips(1) > 0 ? 1 : 0, 1);
         due(15, "two slurs of one fore want one course", w.way(), -11);
+        w.fix(1, 0, 0);
+        w.fix(1, 1, 1);
+        due(15, "whichever courses these are", w.way(), -11);
         LuteFingers v = lute(12, 40, 45);
         plain(v, 45, 40);
         v.note(40, 1, 1);
@@ -756,6 +766,14 @@ public final class PromisesTest {
         x.tick();
         due(21, "of price 0 no more than must be", x.arrange(), 0);
         due(22, "two of them", x.left(0), 3);
+        LuteFingers y = lute(12, 40, 45, 50);
+        y.note(41, 0, 0);
+        y.note(47, 0, 0);
+        y.note(62, 0, 0);
+        y.tick();
+        // the third is too far from each of the others
+        due(21, "of price 0", y.arrange(), 0);
+        due(22, "one note rather than two of a lesser mask", y.left(0), 4);
         x.clear();
         x.note(99, 0, 100);
         x.note(98, 0, 100);
