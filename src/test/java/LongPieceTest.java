@@ -344,7 +344,7 @@ public final class LongPieceTest {
             for (int pitch : new int[] {43, 50, 55, 59}) x.note(pitch, t == 0 ? 0 : 1, 1);
             x.tick();
         }
-        for (int i = 0; i < 110; i++) {
+        for (int i = 0; i < 106; i++) {
             x.weight(0, 1 + i % 9);
             x.arrange();
             x.way();

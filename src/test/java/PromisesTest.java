@@ -917,8 +917,12 @@ public final class PromisesTest {
         due(27, "wipe", x.wipe(), 400);
         due(27, "wipe again", x.wipe(), 0);
         due(28, "empty", x.tape(0), NONE);
-        LuteFingers y = new LuteFingers();
-        for (int i = 0; i < 600; i++) due(26, "feed", y.feed(7), i + 1);
+        // 600 bytes within 512 calls: the signs of 16 ticks, then the others
+        LuteFingers y = lute(0, 40, 41, 42, 43, 44, 45);
+        for (int i = 0; i < 16; i++) y.tick();
+        y.way();
+        due(29, "write", y.write(), 128);
+        for (int i = 129; i <= 600; i++) due(26, "feed", y.feed(7), i);
         due(26, "601st", y.feed(7), FULL);
         due(26, "BAD ahead of FULL", y.feed(256), BAD);
         due(27, "wipe", y.wipe(), 600);
