@@ -834,6 +834,10 @@ public final class BoundsOfGripsTest {
         due("say(32)", x.say(32), 1);
         due("check()", x.check(), -10);
         due("way()", x.way(), 1);
+        for (int i = 0; i < 8; i++) {
+            due("at(0) of way " + i, x.at(0), i);
+            x.next();
+        }
         due("arrange()", x.arrange(), 0);
         due("choose()", x.choose(), 0);
         due("why(0)", x.why(0), 0);
@@ -854,6 +858,15 @@ public final class BoundsOfGripsTest {
         x.tune(4, 58);
         due("32 again", x.grips(0), 32);
         due("way()", x.way(), 1);
+        sentence("the TICK is SPENT: that one alone");
+        LuteFingers y = lute(12, 40, 40, 40, 40, 45);
+        for (int t = 0; t < 16; t++) plain(y, t % 3 == 0 ? 45 : 57);
+        for (int t = 15; t >= 0; t--) due("grips(" + t + ")", y.grips(t), t % 3 == 0 ? STATE : 8);
+        for (int t = 0; t < 16; t++) {
+            due("place in tick " + t, y.grip(t, 0, -1, 0), t % 3 == 0 ? NONE : 8);
+            due("last finger in tick " + t, y.grip(t, 7, 0, 2), t % 3 == 0 ? NONE : 1);
+        }
+        due("way()", y.way(), -10);
     }
 
     private static void costOfGrip() {

@@ -338,6 +338,12 @@ public final class BoundsOfSignsTest {
             due("read() of " + length + " bytes", readText(x, some), whole ? lines(some) : -10 - length);
             due("the tape is empty", x.wipe(), 0);
         }
+        LuteFingers y = lute(12, 40, 45, 50);
+        for (int length = text.length(); length > 11; length--) {
+            // what was behind the end of an earlier tape is not there
+            String some = text.substring(0, length);
+            due("read() of " + length + " bytes", readText(y, some), some.endsWith("\n") ? lines(some) : -10 - length);
+        }
     }
 
     private static void seventeenthLine() {
@@ -411,6 +417,19 @@ public final class BoundsOfSignsTest {
         due("grips(1)", x.grips(1) > 0 ? 1 : 0, 1);
         due("way(): the slur has note 0's course, which the held one has", x.way(), -11);
         due("course() with what was read", x.course(50, 5), STATE);
+        LuteFingers y = lute(12, 40, 45);
+        y.note(40, 3, 100);
+        y.tick();
+        y.note(40, 1, 50);
+        y.tick();
+        due("read()", readText(y, "-b 1\n-c 1\n"), 2);
+        int[] want = {0, 1, NONE, 1};
+        for (int what = 1; what < 5; what++) {
+            due("told(0, 0, " + what + ")", y.told(0, 0, what), want[what - 1]);
+            due("told(1, 0, " + what + ")", y.told(1, 0, what), want[what - 1]);
+        }
+        due("grips(0)", y.grips(0), 1);
+        due("way()", y.way(), 2);
     }
 
     private static void faultLeavesPiece() {

@@ -1,3 +1,8 @@
+import java.util.ArrayList;
+import java.util.Arrays;
+import java.util.List;
+import java.util.function.Supplier;
+
 /** Part 3 of "Terms" and promises 15 to 25: each sentence that names a bound, on both sides of it. */
 public final class BoundsOfWaysTest {
     private static final int NONE = -1, BAD = -2, STATE = -3, FULL = -4;
@@ -22,9 +27,11 @@ public final class BoundsOfWaysTest {
         heldNotes();
         heldOpen();
         slurredNotes();
+        oneFore();
         shifts();
         crossings();
         orderOfWays();
+        firstOfAllRows();
         lastGripOfAll();
         dearestWay();
         breaks();
@@ -145,6 +152,24 @@ public final class BoundsOfWaysTest {
         due("way()", y.way(), -11);
     }
 
+    private static void oneFore() {
+        sentence("two NOTES of one FORE want its COURSE, and no two have one");
+        for (int kind = 1; kind <= 2; kind++) {
+            for (int course = 0; course < 4; course++) {
+                LuteFingers z = lute(12, 40, 40, 40, 40);
+                fixed(z, 42, course);
+                z.note(42, kind, 1);
+                z.note(43, 2, 1);
+                z.tick();
+                z.fix(1, 0, 0);
+                z.fix(1, 1, 1);
+                due("grips of their own", z.grips(1) > 0 ? 1 : 0, 1);
+                due("courses 0 and 1, the fore has " + course, z.way(), -11);
+                due("arrange()", z.arrange(), course < 2 ? 1 : 2);
+            }
+        }
+    }
+
     private static void shifts() {
         sentence("SHIFT times the differences of PLACES, from each one that is not 0 to the next one that is not 0");
         for (int w : new int[] {0, 1, 9}) {
@@ -208,6 +233,75 @@ public final class BoundsOfWaysTest {
             due("cost of way " + i, i == 0 ? x.way() : x.next(), costs[i]);
             due("grips of way " + i, x.at(0) * 4 + x.at(1) * 2 + x.at(2), ways[i]);
         }
+    }
+
+    /** All rows of grips are told to check(): the first eight ways of these are those of way() and next(). */
+    private static void firstEight(String name, Supplier<LuteFingers> maker) {
+        LuteFingers x = maker.get();
+        int ticks = x.count(1);
+        int many = 1;
+        int[] sizes = new int[ticks];
+        for (int t = 0; t < ticks; t++) many *= sizes[t] = x.grips(t);
+        List<int[]> ways = new ArrayList<>();
+        LuteFingers y = null;
+        for (int code = 0; code < many; code++) {
+            if (code % 40 == 0) y = maker.get();
+            int[] way = new int[ticks + 1];
+            int rest = code;
+            for (int t = ticks - 1; t >= 0; t--) {
+                way[t + 1] = rest % sizes[t];
+                rest /= sizes[t];
+            }
+            for (int t = 1; t <= ticks; t++) y.say(way[t]);
+            way[0] = y.check();
+            if (way[0] >= 0) ways.add(way);
+        }
+        ways.sort(Arrays::compare);
+        due(name + ": enough of them", ways.size() >= 8 ? 1 : 0, 1);
+        for (int i = 0; i < 8; i++) {
+            due(name + ": cost of way " + i, i == 0 ? x.way() : x.next(), ways.get(i)[0]);
+            for (int t = 0; t < ticks; t++) due(name + ": at(" + t + ") of way " + i, x.at(t), ways.get(i)[t + 1]);
+        }
+    }
+
+    private static void firstOfAllRows() {
+        sentence("WAYS are in the order of COST, then of their GRIPS' numbers (all rows of GRIPS are tried)");
+        for (int w : new int[] {0, 1, 9}) {
+            firstEight("nine grips without a place", () -> nineOpenGrips(w));
+            firstEight("31 grips, one without a place", () -> manyGrips(w));
+            firstEight("places far apart", () -> farPlaces(w));
+        }
+    }
+
+    /** Tick 1 has nine grips without a finger, three of which may stand ahead of tick 2's. */
+    private static LuteFingers nineOpenGrips(int w) {
+        LuteFingers x = lute(12, 40, 40, 40, 41, 41, 41);
+        x.weight(4, w);
+        fixed(x, 42, 0);
+        plain(x, 41, 40);
+        x.note(40, 1, 1);
+        x.note(41, 1, 1);
+        x.fix(x.tick(), 1, 5);
+        fixed(x, 43, 5);
+        return x;
+    }
+
+    private static LuteFingers manyGrips(int w) {
+        LuteFingers x = lute(12, 40, 40, 40, 42, 44, 45);
+        x.weight(3, w);
+        fixed(x, 43, 0);
+        plain(x, 45);
+        fixed(x, 43, 1);
+        return x;
+    }
+
+    private static LuteFingers farPlaces(int w) {
+        LuteFingers x = lute(12, 40);
+        x.weight(3, w);
+        for (int pitch : new int[] {40, 43, 40, 45, 40, 41}) plain(x, pitch);
+        x.tick();
+        plain(x, 42);
+        return x;
     }
 
     private static void lastGripOfAll() {
@@ -620,6 +714,22 @@ public final class BoundsOfWaysTest {
         due("arrange()", x.arrange(), 1);
         due("nothing of the first tick", x.left(0), 0);
         due("the slur", x.left(1), 1);
+        LuteFingers z = lute(12, 40, 45);
+        fixed(z, 45, 0);
+        kind(z, 45, 1);
+        z.note(50, 0, 1);
+        z.note(40, 3, 1);
+        z.note(45, 1, 100);
+        z.tick();
+        z.fix(2, 0, 1);
+        // the held one on course 1 would do without note 0, but tick 0 has it on course 0: note 1 goes
+        due("arrange()", z.arrange(), 1);
+        due("left(0)", z.left(0), 0);
+        due("left(1)", z.left(1), 0);
+        due("left(2)", z.left(2), 2);
+        z.fix(0, 0, 1);
+        due("tick 0 has it on course 1", z.arrange(), 1);
+        due("left(2)", z.left(2), 1);
         LuteFingers y = lute(12, 40, 45);
         for (int t = 0; t < 16; t++) {
             for (int i = 0; i < 4; i++) y.note(46 + i, 0, 1);
