@@ -33,6 +33,7 @@ public final class BoundsOfWaysTest {
         orderOfWays();
         firstOfAllRows();
         lastGripOfAll();
+        fullestPiece();
         dearestWay();
         breaks();
         breakOfTies();
@@ -289,6 +290,7 @@ public final class BoundsOfWaysTest {
     private static LuteFingers manyGrips(int w) {
         LuteFingers x = lute(12, 40, 40, 40, 42, 44, 45);
         x.weight(3, w);
+        x.weight(4, 0);
         fixed(x, 43, 0);
         plain(x, 45);
         fixed(x, 43, 1);
@@ -340,6 +342,40 @@ public final class BoundsOfWaysTest {
         due("rest()", x.rest(), 1 + 4 + 2);
         due("way()", x.way(), 7);
         due("at(0)", x.at(0), 31);
+    }
+
+    private static void fullestPiece() {
+        sentence("16 TICKS of 4 NOTES with 32 GRIPS each: not SPENT, the PIECE is full");
+        for (int kind = 0; kind <= 1; kind++) {
+            LuteFingers x = lute(0, 20, 21, 22);
+            for (int tune : new int[] {53, 55, 56}) x.course(tune, 12);
+            for (int f = 1; f <= 4; f++) x.slack(f, 2);
+            for (int t = 0; t < 16; t++) {
+                for (int pitch = 20; pitch < 23; pitch++) x.note(pitch, t == 0 ? 3 : kind, 1);
+                x.note(60, t == 0 ? 0 : kind, 1);
+                x.tick();
+            }
+            // 60 has frets 7, 5 and 4: 12, 11 and 9 grips
+            for (int t = 0; t < 16; t++) due("grips(" + t + ")", x.grips(t), 32);
+            due("grip(15, 31, -1, 0)", x.grip(15, 31, -1, 0), 7);
+            due("grip(15, 32, -1, 0)", x.grip(15, 32, -1, 0), NONE);
+            due("arrange()", x.arrange(), 0);
+            due("left(15)", x.left(15), 0);
+            due("rest()", x.rest(), 16);
+            due("way()", x.way(), 16);
+            for (int t = 0; t < 16; t++) due("at(" + t + ")", x.at(t), 0);
+            due("next()", x.next(), 16);
+            due("rank(16)", x.rank(16), 16);
+            due("write()", x.write(), 192);
+            due("choose()", x.choose(), 0);
+            int[] last = new int[16];
+            Arrays.fill(last, 31);
+            due("check()", check(x, last), 16);
+            last[15] = 32;
+            due("check()", check(x, last), -25);
+            x.slack(1, 1);
+            due("fewer", x.grips(15), 29);
+        }
     }
 
     private static void dearestWay() {
