@@ -1,4 +1,5 @@
 import java.io.IOException;
+import java.lang.management.ManagementFactory;
 import java.lang.reflect.Field;
 import java.lang.reflect.Method;
 import java.lang.reflect.Modifier;
@@ -7,6 +8,8 @@ import java.nio.file.Path;
 import java.util.ArrayList;
 import java.util.Arrays;
 import java.util.List;
+import java.util.Map;
+import java.util.TreeMap;
 import java.util.TreeSet;
 import java.util.regex.Matcher;
 import java.util.regex.Pattern;
@@ -30,6 +33,7 @@ public final class LanguageTest {
         nested();
         source(Files.readString(Path.of(SOURCE)));
         wildArguments();
+        room();
         System.out.println(wrong == 0 ? "the class is as it must be" : wrong + " things are not as they must be");
         if (wrong != 0) System.exit(1);
     }
@@ -91,6 +95,50 @@ public final class LanguageTest {
             "Integer.bitCount");
         while (library.find()) if (!may.contains(library.group())) tell("library: " + library.group());
         methodLengths(whole);
+        callDepth(text);
+        staticFields(text);
+    }
+
+    /** Rule 11: calls that are no recursion go at most eight deep. Methods of one name are taken as one. */
+    private static void callDepth(String text) {
+        Map<String, String> bodies = new TreeMap<>();
+        String head = "\n( {4}| {8})(?:public|private) (?:static )?(?:[\\w\\[\\]]+ )?(\\w+)\\([^)]*\\) \\{";
+        Matcher method = Pattern.compile(head).matcher(text);
+        while (method.find()) {
+            int end = text.indexOf("\n" + method.group(1) + "}", method.end());
+            bodies.merge(method.group(2), text.substring(method.end(), end), String::concat);
+        }
+        if (bodies.size() < FACE.length) tell("the methods are not seen");
+        for (String name : bodies.keySet()) {
+            int depth = depthOf(name, bodies, new TreeSet<>());
+            if (depth > 8) tell(name + " goes " + depth + " calls deep");
+        }
+    }
+
+    private static int depthOf(String name, Map<String, String> bodies, TreeSet<String> standing) {
+        int deepest = 0;
+        standing.add(name);
+        Matcher call = Pattern.compile("\\b(\\w+)\\(").matcher(bodies.get(name));
+        while (call.find()) {
+            if (!bodies.containsKey(call.group(1)) || standing.contains(call.group(1))) continue;
+            deepest = Math.max(deepest, depthOf(call.group(1), bodies, standing));
+        }
+        standing.remove(name);
+        return deepest + 1;
+    }
+
+    /** Rule 5: static fields are constants, or arrays written out and never changed. */
+    private static void staticFields(String text) {
+        Matcher field = Pattern.compile("\n *(?:public|private) static ([^(;{]*?)(=|;)").matcher(text);
+        while (field.find()) {
+            String kind = field.group(1);
+            if (!kind.matches("final (int|long|boolean|char|String|int\\[\\]) .*")) tell("static: " + kind);
+        }
+        Matcher array = Pattern.compile("static final int\\[\\] (\\w+)").matcher(text);
+        while (array.find()) {
+            String change = "\\b" + array.group(1) + "\\[[^]]*\\] *[-+*/|&^]?=[^=]";
+            if (Pattern.compile(change).matcher(text).find()) tell("changed: " + array.group(1));
+        }
     }
 
     private static void methodLengths(String whole) {
@@ -130,6 +178,41 @@ public final class LanguageTest {
                     }
                 }
             }
+        }
+    }
+
+    /** A run of 512 of the dearest calls makes little: what is made once is used again. */
+    private static void room() {
+        com.sun.management.ThreadMXBean counter =
+            (com.sun.management.ThreadMXBean) ManagementFactory.getThreadMXBean();
+        long id = Thread.currentThread().getId();
+        dearRun();
+        long before = counter.getThreadAllocatedBytes(id);
+        dearRun();
+        long bytes = counter.getThreadAllocatedBytes(id) - before;
+        if (bytes > 400_000) tell("a run makes " + bytes + " bytes");
+    }
+
+    private static void dearRun() {
+        LuteFingers x = new LuteFingers();
+        for (int c = 0; c < 6; c++) x.course(40 + 5 * c, 12);
+        for (int t = 0; t < 16; t++) {
+            for (int i = 0; i < 2; i++) x.note(43 + 5 * i, 0, 1);
+            x.tick();
+        }
+        if (x.way() < 0 || x.next() < 0 || x.arrange() < 0) tell("the dear run has no way");
+        for (int i = 0; i < 40; i++) {
+            x.fix(0, 0, -1);
+            x.way();
+            x.next();
+            x.rank(8);
+            x.write();
+            x.arrange();
+            x.choose();
+            x.say(0);
+            x.check();
+            x.feed('z');
+            x.read();
         }
     }
 
